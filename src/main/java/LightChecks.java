@@ -248,7 +248,7 @@ public final class LightChecks {
     // ---- a tree, a proof
 
     public long leaf(int k, long v) {
-        return isLeaf(k) ? theTree.change(k, v) : 0;
+        return theTree.change(k, v);
     }
 
     public long tree(int k) {
