@@ -1,6 +1,5 @@
 /** Promises 1 and 9 to 16: clients that follow and seek, givers that are compared and blamed. */
-public final class ClientsAndGiversTest {
-    private static final int BAD = -1, NONE = -2;
+public final class ClientsAndGiversTest extends Worlds {
     private static final int[] NO_SUCH = {-1, 4, Integer.MIN_VALUE, Integer.MAX_VALUE};
 
     public static void main(String[] args) {
@@ -23,41 +22,6 @@ public final class ClientsAndGiversTest {
         giversAreBlamed(due);
         blameLooksBelow(due);
         due.end();
-    }
-
-    /** Sets 0 (nodes 0, 1, 2 weigh 10), 1 (nodes 3, 4, 5 weigh 10) and 2 (nodes 2, 3, 4 weigh 10). */
-    private static LightChecks world() {
-        LightChecks x = new LightChecks();
-        x.set(SetsAndHeadsTest.weights(10, 10, 10), 0);
-        x.set(SetsAndHeadsTest.weights(0, 0, 0, 10, 10), 10);
-        x.set(SetsAndHeadsTest.weights(0, 0, 10, 10, 10), 0);
-        return x;
-    }
-
-    private static int made(LightChecks x, int height, long parent, int set, int next, int... nodes) {
-        int head = x.head(height, parent, set, next, 0);
-        for (int node : nodes) {
-            x.sign(head, node);
-        }
-        return head;
-    }
-
-    private static int skip(LightChecks x, int height) {
-        return made(x, height, 0, 0, 0, 0, 1, 2);
-    }
-
-    private static void keeps(Due due, String when, LightChecks x, int client, int... heads) {
-        due.is(when + ", stored -1", x.stored(client, -1), heads.length);
-        for (int k = 0; k < heads.length; k++) {
-            due.is(when + ", stored " + k, x.stored(client, k), heads[k]);
-        }
-        due.is(when + ", stored " + heads.length, x.stored(client, heads.length), NONE);
-    }
-
-    private static void tells(Due due, String when, LightChecks x, int client, int... what) {
-        for (int i = 0; i < what.length; i++) {
-            due.is(when + ", client " + i, x.client(client, i), what[i]);
-        }
     }
 
     private static void nothingAtFirst(Due due) {

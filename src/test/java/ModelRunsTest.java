@@ -1,7 +1,7 @@
 import java.util.Random;
 
 /** Runs of drawn calls, from fixed seeds, on the class and on the plain model: every answer must be the same. */
-public final class ModelRunsTest {
+public final class ModelRunsTest extends Worlds {
     private static final int RUNS = 2500;
     private static final int CHAIN_RUNS = 2500;
     // With the 52 calls that end a run, and the 12 more that one round may make, this stays within 512.
@@ -66,8 +66,8 @@ public final class ModelRunsTest {
     private void goAlongAChain() {
         int sets = 2 + random.nextInt(4), gap = 1 + random.nextInt(3);
         for (int i = 0; i < sets; i++) {
-            long a = SetsAndHeadsTest.weights(i == 0 ? 9 : 0, i < 2 ? 9 : 1, i < 3 ? 9 : 1, i > 0 ? 9 : 1, i > 1 ? 9 : 0);
-            long b = SetsAndHeadsTest.weights(i > 2 ? 9 : 0, i > 3 ? 9 : 0);
+            long a = weights(i == 0 ? 9 : 0, i < 2 ? 9 : 1, i < 3 ? 9 : 1, i > 0 ? 9 : 1, i > 1 ? 9 : 0);
+            long b = weights(i > 2 ? 9 : 0, i > 3 ? 9 : 0);
             same("set", x.set(a, b), y.set(a, b));
         }
         int length = 30 + random.nextInt(12), set = 0;

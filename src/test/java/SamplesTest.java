@@ -37,10 +37,11 @@ public final class SamplesTest {
     }
 
     private static void allChances(Due due) {
-        LightChecks x = new LightChecks();
         PlainModel y = new PlainModel();
         for (int n = 1; n <= 60; n++) {
             for (int m = 0; m <= n; m++) {
+                // Nothing is promised of an object's 513th call, so that each row has one of its own.
+                LightChecks x = new LightChecks();
                 for (int s = 0; s <= n; s++) {
                     fraction(due, x, n, m, s, y.chance(n, m, s, 0), y.chance(n, m, s, 1));
                 }
@@ -76,10 +77,10 @@ public final class SamplesTest {
     }
 
     private static void allSamples(Due due) {
-        LightChecks x = new LightChecks();
         PlainModel y = new PlainModel();
         int[] some = {1, 2, 3, 10, 1000, 99999, 1000000};
         for (int n = 1; n <= 60; n++) {
+            LightChecks x = new LightChecks();
             for (int m = 0; m <= n; m++) {
                 for (int of : some) {
                     due.is("samples " + n + " " + m + " " + of, x.samples(n, m, of), y.samples(n, m, of));

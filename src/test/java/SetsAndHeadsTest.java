@@ -1,7 +1,5 @@
 /** Promises 1 to 8 and 25: sets, heads, signing, terms, digests, certified and overlapping heads. */
-public final class SetsAndHeadsTest {
-    private static final int BAD = -1, FULL = -3;
-
+public final class SetsAndHeadsTest extends Worlds {
     public static void main(String[] args) {
         Due due = new Due("SetsAndHeadsTest");
         newObject(due);
@@ -17,15 +15,6 @@ public final class SetsAndHeadsTest {
         overlapsFollowTheTerms(due);
         numbersAreTold(due);
         due.end();
-    }
-
-    /** Five weights, that of the first node in the lowest bits. */
-    static long weights(int... each) {
-        long packed = 0;
-        for (int i = 0; i < each.length; i++) {
-            packed |= (long) each[i] << 7 * i;
-        }
-        return packed;
     }
 
     private static void newObject(Due due) {

@@ -1,7 +1,5 @@
 /** Promises 1 and 17 to 22: the tree, its proof, and frauds shown by it. */
-public final class TreeAndProofTest {
-    private static final int BAD = -1, NONE = -2;
-
+public final class TreeAndProofTest extends Worlds {
     public static void main(String[] args) {
         Due due = new Due("TreeAndProofTest");
         emptyTree(due);
@@ -154,11 +152,6 @@ public final class TreeAndProofTest {
         }
         due.is("the proof stays", x.proof(0), 3);
         due.is("the proof stays, b", x.proof(1), 6);
-    }
-
-    /** A head with a root; what else it has does not matter for a fraud. */
-    private static int rooted(LightChecks x, long root) {
-        return x.head(5, 0, 0, 0, root);
     }
 
     private static void stepsAreJudged(Due due) {
