@@ -44,6 +44,8 @@ public final class LightChecks {
     private static final int TREE_LEVELS = 4;
     private static final int TOP = 1;
     private static final int MOST_PROOF_NODES = 4;
+    // The number by which proof() and alter() call the first node.
+    private static final int FIRST_NODE = 4;
 
     private static final int MOST_PIECES = 60;
     private static final int GREATEST_OF = 1000000;
@@ -717,8 +719,7 @@ public final class LightChecks {
                 case 3:
                     return valueB;
                 default:
-                    // A k far below 0 must not wrap into the nodes' places.
-                    return k >= 4 && hasNode(k - 4) ? nodes[k - 4] : 0;
+                    return hasNode(k - FIRST_NODE) ? nodes[k - FIRST_NODE] : 0;
             }
         }
 
@@ -727,8 +728,8 @@ public final class LightChecks {
                 valueA = v;
             } else if (k == 3) {
                 valueB = v;
-            } else if (k >= 4 && hasNode(k - 4)) {
-                nodes[k - 4] = v;
+            } else if (hasNode(k - FIRST_NODE)) {
+                nodes[k - FIRST_NODE] = v;
             } else {
                 return false;
             }

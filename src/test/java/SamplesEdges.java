@@ -16,7 +16,7 @@ final class SamplesEdges extends Worlds {
         promise24Bad(due);
     }
 
-    private static void fraction(Due due, LightChecks x, int n, int m, int s, long above, long below) {
+    static void fraction(Due due, LightChecks x, int n, int m, int s, long above, long below) {
         String name = "n " + n + ", m " + m + ", s " + s;
         due.is(name + ", above", x.chance(n, m, s, 0), above);
         due.is(name + ", below", x.chance(n, m, s, 1), below);

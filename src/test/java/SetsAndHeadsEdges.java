@@ -503,6 +503,7 @@ final class SetsAndHeadsEdges extends Worlds {
         LightChecks x = new LightChecks();
         x.set(weights(1, 1, 1), 0);
         x.set(weights(0, 1, 1), 0);
+        x.set(0, 1);
         x.head(0, 0, 0, 0, 0);
         due.is("by nobody", x.overlaps(0, 0), 0);
         x.sign(0, 0);
@@ -510,6 +511,7 @@ final class SetsAndHeadsEdges extends Worlds {
         x.sign(0, 1);
         due.is("by two of three", x.overlaps(0, 0), 1);
         due.is("by one of two, another set than its own", x.overlaps(0, 1), 1);
+        due.is("by nobody of another set, though by two of its own three", x.overlaps(0, 2), 0);
     }
 
     private static void promise8Bad(Due due) {
