@@ -4,13 +4,14 @@ import java.nio.file.Path;
 
 /**
  * Each sentence of the document that names a boundary case, by a test of its own that says which one it holds;
- * and that no words of 'Terms' and of the promises are without one.
+ * and that no words of 'What it is', of 'Terms' and of the promises are without one.
  */
 public final class EdgesTest {
     private static final int PROMISES = 25;
 
     public static void main(String[] args) throws IOException {
         Due due = new Due("EdgesTest");
+        WhatItIsEdges.all(due);
         NewObjectEdges.all(due);
         SetsAndHeadsEdges.all(due);
         TryAndSeekEdges.all(due);
@@ -34,6 +35,7 @@ public final class EdgesTest {
             words.holds(held + " stands in the document", document.claim(held.section, held.words));
             words.holds(held + " is asked for", held.asked > 0);
         }
+        covered(words, document, "What it is");
         covered(words, document, "Terms");
         for (int promise = 1; promise <= PROMISES; promise++) {
             covered(words, document, "Promise " + promise);

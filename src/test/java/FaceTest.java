@@ -4,6 +4,8 @@ import java.lang.reflect.Method;
 import java.lang.reflect.Modifier;
 import java.nio.file.Files;
 import java.nio.file.Path;
+import java.util.ArrayList;
+import java.util.List;
 import java.util.Set;
 import java.util.TreeSet;
 import java.util.regex.Matcher;
@@ -26,8 +28,42 @@ public final class FaceTest {
         Due due = new Due("FaceTest");
         methods(due);
         constants(due);
+        document(due, Path.of(System.getProperty("document", "../shared/DOC.md")));
         source(due, Files.readString(Path.of(System.getProperty("source", "src/main/java/LightChecks.java"))));
+        for (Class<?> one : classes()) {
+            sizes(due, one);
+        }
+        due.holds("some twelve classes at most", classes().size() <= 12);
         due.end();
+    }
+
+    private static List<Class<?>> classes() {
+        List<Class<?>> all = new ArrayList<>(List.of(LightChecks.class));
+        all.addAll(List.of(LightChecks.class.getDeclaredClasses()));
+        return all;
+    }
+
+    /** The face that is written out here is still the one that the document shows. */
+    private static void document(Due due, Path file) throws Exception {
+        if (!Files.exists(file)) {
+            System.out.println("FaceTest: no document at " + file + ", so the face is not looked up there");
+            return;
+        }
+        Matcher block = Pattern.compile("(?s)## The public face\\s+```java\n(.*?)```").matcher(Files.readString(file));
+        due.holds("the document shows a face", block.find());
+        Set<String> shown = new TreeSet<>();
+        Set<String> others = new TreeSet<>();
+        for (String line : block.group(1).lines().toList()) {
+            Matcher method = Pattern.compile("\\s*public (\\w+ \\w+\\([^)]*\\));").matcher(line);
+            if (method.matches()) {
+                shown.add(method.group(1).replaceAll("(\\w+) \\w+([,)])", "$1$2").replace(", ", ","));
+            } else {
+                others.add(line.trim());
+            }
+        }
+        due.holds("the document's methods: " + shown, shown.equals(new TreeSet<>(FACE)));
+        due.holds("the document's other members: " + others, others.equals(Set.of("public final class LightChecks {",
+            "public static final int BAD = -1, NONE = -2, FULL = -3;", "public LightChecks();", "}")));
     }
 
     private static String shape(Method m) {
@@ -86,5 +122,40 @@ public final class FaceTest {
         String code = text.replaceAll("(?s)/\\*.*?\\*/", "").replaceAll("//[^\n]*", "");
         Matcher found = RULED_OUT.matcher(code);
         due.holds("no word that LANGUAGE.md rules out", !found.find());
+        Matcher method = Pattern.compile("(?ms)^( +)(public|private)[^;={]*\\([^;{]*\\{\n.*?^\\1\\}\n").matcher(code);
+        int methods = 0;
+        while (method.find()) {
+            methods++;
+            String[] lines = method.group().split("\n");
+            due.holds("sixty lines at most: " + lines[0].trim(), lines.length <= 60);
+        }
+        due.holds("the methods were found: " + methods, methods >= FACE.size());
+    }
+
+    /** Rules 3, 5 and 11 of LANGUAGE.md, as far as the class itself shows them. */
+    private static void sizes(Due due, Class<?> one) {
+        int fields = 0;
+        for (Field f : one.getDeclaredFields()) {
+            boolean isStatic = Modifier.isStatic(f.getModifiers());
+            fields += isStatic ? 0 : 1;
+            due.holds(f + " is of a type that may be used", isStatic ? isConstant(f.getType()) : isAllowed(f.getType()));
+        }
+        due.holds(one + " has some twenty fields at most", fields <= 20);
+        for (Method m : one.getDeclaredMethods()) {
+            due.holds(m + " takes seven parameters at most", m.getParameterCount() <= 7);
+        }
+        for (Constructor<?> c : one.getDeclaredConstructors()) {
+            due.holds(c + " takes seven parameters at most", c.getParameterCount() <= 7);
+        }
+    }
+
+    private static boolean isConstant(Class<?> type) {
+        return Set.of(int.class, long.class, boolean.class, char.class, String.class,
+            int[].class, long[].class, char[].class, byte[].class).contains(type);
+    }
+
+    private static boolean isAllowed(Class<?> type) {
+        Class<?> part = type.isArray() ? type.getComponentType() : type;
+        return part.isPrimitive() || classes().contains(part);
     }
 }

@@ -1,58 +1,14 @@
-/** The edges of 'What it is', of 'The public face' and of promise 1. */
+/** The edges of 'The public face' and of promise 1. */
 final class NewObjectEdges extends Worlds {
     private static final String FIRST = "Promise 1";
     private static final long EMPTY_TOP = -2230949851122117354L;
 
     static void all(Due due) {
-        numbersAreLongsThatWrap(due);
-        answersHoldForAll512Calls(due);
-        answersHoldForAll512Seeks(due);
         constantsAreTheDocuments(due);
         promise1NoSetsNoHeads(due);
         promise1ClientsStoreNothing(due);
         promise1TheTreeIsEmpty(due);
         promise1TheProofIsOfLeaves0And1(due);
-    }
-
-    private static void numbersAreLongsThatWrap(Due due) {
-        due.sentence("What it is", "Numbers are longs that wrap.");
-        LightChecks x = new LightChecks();
-        x.set(1, 0);
-        due.is("the outermost parent and root", x.head(0, Long.MIN_VALUE, 0, 0, Long.MAX_VALUE), 0);
-        due.is("and the other way round", x.head(0, Long.MAX_VALUE, 0, 0, Long.MIN_VALUE), 1);
-        x.leaf(0, 5);
-        x.leaf(7, Long.MAX_VALUE);
-        x.prove(0, 7);
-        int before = rooted(x, x.tree(1));
-        due.is("the greatest long is a leaf", x.leaf(7, Long.MIN_VALUE), Long.MAX_VALUE);
-        due.is("the least long is a leaf", x.leaf(7, Long.MIN_VALUE), Long.MIN_VALUE);
-        x.leaf(0, 4);
-        due.is("1 more than the greatest is the least", x.fraud(before, rooted(x, x.tree(1)), 1), 0);
-        x.leaf(0, 0);
-        x.leaf(7, Long.MIN_VALUE + 4);
-        due.is("5 more than the greatest", x.fraud(before, rooted(x, x.tree(1)), 5), 0);
-    }
-
-    private static void answersHoldForAll512Calls(Due due) {
-        due.sentence("What it is", "An object is used for at most 512 calls after it has been made");
-        LightChecks x = new LightChecks();
-        for (int call = 1; call <= 512; call++) {
-            due.is("call " + call, x.leaf(0, call), call - 1);
-        }
-    }
-
-    private static void answersHoldForAll512Seeks(Due due) {
-        due.sentence("What it is", "An object is used for at most 512 calls after it has been made");
-        LightChecks x = new LightChecks();
-        x.set(1, 0);
-        x.head(0, 0, 0, 0, 0);
-        x.head(100000, 0, 0, 0, 0);
-        x.start(0, 0);
-        x.give(0, 1);
-        for (int call = 6; call <= 511; call++) {
-            due.is("call " + call, x.seek(0, 0, 100000), -17);
-        }
-        due.is("call 512: the cost of 506 seeks, each of two tries", x.client(0, 0), 1012);
     }
 
     private static void constantsAreTheDocuments(Due due) {
